@@ -7,6 +7,7 @@ public final class LoaderModels {
     private static final int LOADER_LIMIT = 8, CLASS_LIMIT = 40, OBJECT_LIMIT = 60, ROW_LIMIT = 20;
     private static final int ROW_LENGTH_LIMIT = 8, NOTE_LIMIT = 30, NOTE_FACTOR = 64;
 
+    private static final int FAILURE_BASE = -10;
     private static final int ABSENT = 1, NO_DEFINITION = 2, LINKAGE = 3, SECURITY = 4, CAST = 5, CIRCLE = 6;
     private static final int FINAL = 7, STORE = 8, START = 9, NO_METHOD = 10, INDEX = 11, ROOM = 12;
 
@@ -229,7 +230,7 @@ public final class LoaderModels {
     }
 
     private static int failed(int failure) {
-        return -10 - failure;
+        return FAILURE_BASE - failure;
     }
 
     private static int numberOf(Model model) {
@@ -250,7 +251,7 @@ public final class LoaderModels {
 
     // Only what a call answers is the latest FAILURE: an ABSENT that another turn made good is none.
     private int answered(int answer) {
-        if (answer <= failed(ABSENT)) latestFailure = failed(answer);
+        if (answer < FAILURE_BASE) latestFailure = FAILURE_BASE - answer;
         return answer;
     }
 

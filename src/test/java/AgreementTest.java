@@ -7,6 +7,7 @@ public final class AgreementTest {
         definingIsBarred();
         askingIsBarred();
         boundByAThird();
+        theMachineToo();
         knowTwo();
         apart();
         due.end();
@@ -49,6 +50,7 @@ public final class AgreementTest {
         due.is("the second is barred", -13, x.define(2, 9));
         due.is("it KNOWS none", -1, x.known(2, 20));
         due.is("no class is left", 6, x.told(2));
+        due.is("ABSENT at the PARENT stays ABSENT", -11, x.load(2, 20));
         due.is("another is free", 6, x.define(3, 9));
         due.is("another NAME is free", 7, x.define(2, 5));
     }
@@ -93,6 +95,28 @@ public final class AgreementTest {
         due.is("the MACHINE is not", 6, x.define(0, 9));
         due.is("agree(0, 4), who KNOW two by others", -13, x.agree(0, 4, 20));
         due.is("told(6)", 3, x.told(6));
+    }
+
+    private static void theMachineToo() {
+        LoaderModels x = four();
+        due.is("9", 9, x.file(20, 20, 0, 1, false));
+        due.is("10", 10, x.file(21, 21, 0, 1, false));
+        due.is("agree(0, 1, 20)", 1, x.agree(0, 1, 20));
+        due.is("class 5 of the MACHINE", 5, x.define(0, 9));
+        due.is("1 is barred", -13, x.define(1, 9));
+        due.is("it may have the MACHINE's", 5, x.load(1, 20));
+        due.is("agree(2, 0, 21)", 1, x.agree(2, 0, 21));
+        due.is("class 6 of loader 2", 6, x.define(2, 10));
+        due.is("the MACHINE is barred", -13, x.define(0, 10));
+        due.is("agree(0, 3, 20)", 1, x.agree(0, 3, 20));
+        due.is("3 is barred by the MACHINE", -13, x.define(3, 9));
+        due.is("class 7 of loader 4", 7, x.define(4, 9));
+        due.is("the MACHINE KNOWS another", -13, x.agree(0, 4, 20));
+        due.is("the other way", -13, x.agree(4, 0, 20));
+        due.is("what the MACHINE alone KNOWS", 8, x.load(0, 1));
+        due.is("it may agree on", 1, x.agree(0, 1, 1));
+        for (int c = 1; c <= 4; c++) due.is("agree on NAME 0", 1, x.agree(0, c, 0));
+        for (int l = 0; l <= 4; l++) due.is("all have the MACHINE's", 0, x.load(l, 0));
     }
 
     private static void knowTwo() {

@@ -121,8 +121,10 @@ public final class LoadingTest {
         due.is("known(1, 5)", 1, x.known(1, 5));
         due.is("NO DEFINITION before LINKAGE", -12, x.define(1, 6));
         due.is("LINKAGE", -13, x.define(1, 7));
+        int loads = x.told(5);
         due.is("8", 8, x.file(6, 6, 30, 1, false));
         due.is("ABSENT above is NO DEFINITION", -12, x.define(1, 8));
+        due.is("two LOADS", loads + 2, x.told(5));
         due.is("told(6)", 2, x.told(6));
         due.is("the MACHINE defines any NAME", 2, x.define(0, 7));
         due.is("one file, two classes", 1, x.apart(1, 2));
@@ -133,6 +135,10 @@ public final class LoadingTest {
         x.bound(1, 4);
         due.is("PARENT first", 3, x.load(1, 3));
         due.is("SECURITY before LINKAGE", -14, x.define(1, 9));
+        due.is("10", 10, x.file(5, 5, 30, 1, false));
+        loads = x.told(5);
+        due.is("LINKAGE before what is above", -13, x.define(1, 10));
+        due.is("no LOAD", loads, x.told(5));
     }
 
     private static void whatStays() {

@@ -20,6 +20,7 @@ public final class MakingTest {
         due.is("new, about(0, 0)", -2, x.about(0, 0));
         for (int name = 0; name < 40; name++) due.is("new, known(0, " + name + ")", -1, x.known(0, name));
         due.is("new, get(0, 0)", -2, x.get(0, 0));
+        for (int name = 5; name < 40; name++) due.is("the MACHINE has no " + name, -11, x.load(0, name));
         // Files 0 to 4: NAME and INNER the same, ABOVE 0, CONTENT 1, not FINAL, no METHODS.
         for (int name = 4; name >= 0; name--) {
             int c = x.load(0, name);
@@ -82,6 +83,8 @@ public final class MakingTest {
         due.is("the 31st", -5, x.file(5, 5, 0, 1, false));
         due.is("the 31st, OUTSIDE first", -3, x.file(5, 5, 40, 1, false));
         due.is("told(1)", 30, x.told(1));
+        due.is("define(0, 30)", -2, x.define(0, 30));
+        due.is("method(30, ..)", -2, x.method(30, 0, 0, 0, 0));
         due.is("define(0, 5)", 1, x.define(0, 5));
         due.is("about(1, 0)", 39, x.about(1, 0));
     }

@@ -101,6 +101,9 @@ public final class StartingTest {
         due.is("FULL starts nothing", 0, x.about(2, 4));
         due.is("UNKNOWN first", -2, x.make(3));
         due.is("told(3)", 60, x.told(3));
+        due.is("cast(59, 0)", 1, x.cast(59, 0));
+        due.is("cast(60, 0)", -2, x.cast(60, 0));
+        due.is("call(60, 0, 0)", Due.REFUSED + 2, x.call(60, 0, 0));
         due.is("told(6)", 0, x.told(6));
         LoaderModels y = new LoaderModels();
         y.load(0, 1);

@@ -63,6 +63,9 @@ public final class UsingTest {
         due.is("OUTSIDE first", -3, x.row(0, 9));
         due.is("UNKNOWN first", -2, x.row(5, 9));
         due.is("told(4)", 20, x.told(4));
+        due.is("get(20, 0)", -2, x.get(20, 0));
+        due.is("castRow(19, 0)", 1, x.castRow(19, 0));
+        due.is("castRow(20, 0)", -2, x.castRow(20, 0));
     }
 
     private static void putsAndGets() {
