@@ -11,6 +11,11 @@ final class Due {
         System.out.println(call + " answered " + got + ", due is " + want);
     }
 
+    /** Numbers that are not 0 to count - 1: just beside these, and the farthest. */
+    static int[] notBelow(int count) {
+        return new int[] {-1, count, -2, count + 1, Integer.MIN_VALUE, Integer.MAX_VALUE};
+    }
+
     void end() {
         System.out.println(count + " answers, " + wrong + " not as due");
         if (wrong != 0) System.exit(1);
